@@ -39,7 +39,8 @@ public final class AgainstModelTest {
         if (kind < 32) {
             long bytes = random.nextLong();
             int n = random.nextInt(25) == 0 ? odd() : 1 + random.nextInt(8);
-            both(check, where + "feed(" + bytes + ", " + n + ")", () -> bench.feed(bytes, n), () -> model.feed(bytes, n));
+            both(check, where + "feed(" + bytes + ", " + n + ")", () -> bench.feed(bytes, n),
+                    () -> model.feed(bytes, n));
         } else if (kind < 62) {
             callPiece(check, where);
         } else if (kind < 68) {
@@ -96,14 +97,6 @@ public final class AgainstModelTest {
     }
 
     private static void both(Check check, String what, LongSupplier ofBench, LongSupplier ofModel) {
-        check.same(what, answer(ofBench), answer(ofModel));
-    }
-
-    private static String answer(LongSupplier call) {
-        try {
-            return Long.toString(call.getAsLong());
-        } catch (RuntimeException e) {
-            return e.getClass().getName();
-        }
+        check.same(what, Check.answer(ofBench), Check.answer(ofModel));
     }
 }

@@ -1,3 +1,5 @@
+import java.util.function.LongSupplier;
+
 /** Counts what is not as due, and the short ways in which the tests call a PieceBench. */
 final class Check {
     private int wrong;
@@ -17,15 +19,21 @@ final class Check {
         }
     }
 
-    /** The very class is asked for: what the machine throws by itself is mostly a class below it. */
     void refused(String what, Class<? extends RuntimeException> due, Runnable call) {
-        String got = "throws nothing";
-        try {
+        String got = answer(() -> {
             call.run();
+            return 0;
+        });
+        same(what, got, "throws " + due.getName());
+    }
+
+    /** The very class is told: what the machine throws by itself is mostly a class below the one that is due. */
+    static String answer(LongSupplier call) {
+        try {
+            return Long.toString(call.getAsLong());
         } catch (RuntimeException e) {
-            got = e.getClass().getName();
+            return "throws " + e.getClass().getName();
         }
-        same(what, got, due.getName());
     }
 
     void end() {
@@ -60,14 +68,14 @@ final class Check {
         return send(bench, source, 0, 2, source, 1);
     }
 
-    static int missing(PieceBench bench, int source) {
-        return bench.missing(source, 0, 0);
+    /** Four datagrams wait, of the sources 1 to 4. */
+    static void startFour(PieceBench bench) {
+        for (int source = 1; source <= 4; source++) {
+            start(bench, source);
+        }
     }
 
-    /** Feeds 1480 bytes in 185 calls. */
-    static void feedFull(PieceBench bench, long bytes) {
-        for (int k = 0; k < 185; k++) {
-            bench.feed(bytes, 8);
-        }
+    static int missing(PieceBench bench, int source) {
+        return bench.missing(source, 0, 0);
     }
 }

@@ -2,93 +2,114 @@
 public final class PassTest {
     public static void main(String[] args) {
         Check check = new Check();
-        givesUpAfter300Ticks(check);
-        givesUpSeveral(check);
-        countsFromTheFirstPiece(check);
-        countsAnewForOneBegunAnew(check);
-        refusesWrongTicks(check);
-        refusesTooLateATime(check);
+        answersHowManyWereGivenUp(check);
+        takesTicksFrom0To1000000(check);
+        refusesOtherTicks(check);
+        comesUpToTheLatestTime(check);
+        refusesALaterTime(check);
         check.end();
     }
 
-    private static void givesUpAfter300Ticks(Check check) {
-        PieceBench bench = new PieceBench();
-        bench.pass(1000);
-        Check.start(bench, 1);
-        check.same("pass of 0", bench.pass(0), 0);
-        check.same("pass up to 299", bench.pass(299), 0);
-        check.same("missing at 299", Check.missing(bench, 1), 1);
-        check.same("pass up to 300", bench.pass(1), 1);
-        check.same("missing at 300", Check.missing(bench, 1), PieceBench.NONE);
-        check.same("waiting at 300", bench.waiting(), 0);
-        check.same("pass with none", bench.pass(1000000), 0);
-    }
-
-    private static void givesUpSeveral(Check check) {
+    private static void answersHowManyWereGivenUp(Check check) {
+        check.same("none of a new one", new PieceBench().pass(1000000), 0);
+        for (int count = 1; count <= 4; count++) {
+            PieceBench bench = new PieceBench();
+            for (int source = 1; source <= count; source++) {
+                Check.start(bench, source);
+            }
+            check.same("one tick too few for " + count, bench.pass(299), 0);
+            check.same("all of " + count, bench.pass(1), count);
+            check.same("none is given up twice", bench.pass(300), 0);
+        }
         PieceBench bench = new PieceBench();
         for (int source = 1; source <= 4; source++) {
             Check.start(bench, source);
             bench.pass(10);
         }
         Check.send(bench, 2, 1, 2, 0, 1);
-        check.same("pass up to 300", bench.pass(260), 1);
+        check.same("pass up to 300 of the first", bench.pass(260), 1);
         check.same("missing of 1", Check.missing(bench, 1), PieceBench.NONE);
         check.same("missing of 3", Check.missing(bench, 3), 1);
-        check.same("pass up to 310", bench.pass(10), 0);
+        check.same("one that was whole is not given up", bench.pass(10), 0);
         check.same("pass far beyond", bench.pass(1000000), 2);
         check.same("waiting", bench.waiting(), 0);
-        for (int source = 1; source <= 4; source++) {
-            Check.start(bench, source);
-        }
-        check.same("pass for all four", bench.pass(300), 4);
         check.same("about the one that was whole", bench.about(0), 2);
     }
 
-    private static void countsFromTheFirstPiece(Check check) {
+    /** "Illegal argument: n is not 0 .. 1000000": just inside. */
+    private static void takesTicksFrom0To1000000(Check check) {
+        for (Scene scene : Scene.all()) {
+            Scene later = new Scene("after a pass of 0", () -> {
+                PieceBench bench = scene.make();
+                bench.pass(0);
+                return bench;
+            });
+            later.sameAs(check, scene);
+        }
+        check.same("a pass of 0", Scene.BUSY.make().pass(0), 0);
+        check.same("a pass of 1", Scene.BUSY.make().pass(1), 0);
+        check.same("a pass of 999999", Scene.BUSY.make().pass(999999), 4);
+        check.same("a pass of 1000000", Scene.BUSY.make().pass(1000000), 4);
+        // So many ticks went by, no fewer: the next datagram waits its 300 from there on.
         PieceBench bench = new PieceBench();
-        Check.send(bench, 1, 0, 9, 0, 1);
-        bench.pass(200);
-        Check.send(bench, 1, 1, 9, 0, 1);
-        Check.send(bench, 1, 1, 8, 0, 1);
-        check.same("pass up to 300", bench.pass(100), 1);
+        for (int k = 0; k < 490; k++) {
+            check.same("pass " + k + " of 1000000", bench.pass(1000000), 0);
+        }
+        Check.start(bench, 1);
+        check.same("299 ticks then", bench.pass(299), 0);
+        check.same("300 ticks then", bench.pass(1), 1);
     }
 
-    private static void countsAnewForOneBegunAnew(Check check) {
-        PieceBench bench = new PieceBench();
-        Check.start(bench, 1);
-        bench.pass(200);
-        Check.send(bench, 1, 1, 2, 0, 1);
-        Check.start(bench, 1);
-        check.same("pass up to 300 from the old one", bench.pass(100), 0);
-        check.same("pass up to 299 from the new one", bench.pass(199), 0);
-        check.same("pass up to 300 from the new one", bench.pass(1), 1);
+    /** Just outside, and the extremes. */
+    private static void refusesOtherTicks(Check check) {
+        int[] wrong = {-1, 1000001, -300, 1000000001, Integer.MIN_VALUE, Integer.MAX_VALUE};
+        for (Scene scene : Scene.all()) {
+            for (int n : wrong) {
+                scene.refuses(check, "pass of " + n, IllegalArgumentException.class, bench -> bench.pass(n));
+            }
+        }
     }
 
-    private static void refusesWrongTicks(Check check) {
-        PieceBench bench = new PieceBench();
+    /**
+     * "Illegal state: the time would be more than 1000000000": just inside. It takes more than 512 calls to come
+     * there, so that the document promises nothing; the class keeps to it all the same.
+     */
+    private static void comesUpToTheLatestTime(Check check) {
+        PieceBench bench = ticksBeforeTheLatest(1000000);
         Check.start(bench, 1);
+        check.same("the last 1000000", bench.pass(1000000), 1);
+        check.same("0 more", bench.pass(0), 0);
+        check.same("a datagram at the latest time", Check.start(bench, 2), 0);
+        check.same("0 more then", bench.pass(0), 0);
+        check.same("waiting", bench.waiting(), 1);
+    }
+
+    /** Just outside; and the illegal argument is thrown first. */
+    private static void refusesALaterTime(Check check) {
+        PieceBench bench = ticksBeforeTheLatest(299);
+        Check.start(bench, 1);
+        int[] late = {300, 301, 1000000};
+        for (int n : late) {
+            check.refused("a pass of " + n, IllegalStateException.class, () -> bench.pass(n));
+        }
         int[] wrong = {-1, 1000001, Integer.MIN_VALUE, Integer.MAX_VALUE};
         for (int n : wrong) {
-            check.refused("pass of " + n, IllegalArgumentException.class, () -> bench.pass(n));
+            check.refused("a late pass of " + n, IllegalArgumentException.class, () -> bench.pass(n));
         }
-        check.same("waiting after refusals", bench.waiting(), 1);
-        check.same("pass of 299", bench.pass(299), 0);
-        check.same("pass of 1000000", bench.pass(1000000), 1);
+        check.same("waiting after the refusals", bench.waiting(), 1);
+        check.same("missing after the refusals", Check.missing(bench, 1), 1);
+        check.same("the last 299", bench.pass(299), 0);
+        check.refused("1 more", IllegalStateException.class, () -> bench.pass(1));
+        check.same("waiting at the latest time", bench.waiting(), 1);
+        check.same("0 more", bench.pass(0), 0);
     }
 
-    /** It takes more than 512 calls to come there, so that the document promises nothing; the class keeps to it. */
-    private static void refusesTooLateATime(Check check) {
+    private static PieceBench ticksBeforeTheLatest(int ticks) {
         PieceBench bench = new PieceBench();
         for (int k = 0; k < 999; k++) {
             bench.pass(1000000);
         }
-        bench.pass(999800);
-        Check.start(bench, 1);
-        check.refused("pass beyond the latest time", IllegalStateException.class, () -> bench.pass(300));
-        check.refused("wrong pass", IllegalArgumentException.class, () -> bench.pass(1000001));
-        check.same("waiting after the refusal", bench.waiting(), 1);
-        check.same("pass up to the latest time", bench.pass(200), 0);
-        check.refused("pass of 1 more", IllegalStateException.class, () -> bench.pass(1));
-        check.same("pass of 0 more", bench.pass(0), 0);
+        bench.pass(1000000 - ticks);
+        return bench;
     }
 }
