@@ -4,7 +4,7 @@ import java.lang.reflect.Method;
 import java.lang.reflect.Modifier;
 import java.util.TreeSet;
 
-/** The public face: its members and no other visible one (rule 1 of the language). */
+/** The public face: its members, and no other visible one but for classes inside (rule 1 of the language). */
 public final class FaceTest {
     private static final String[] DUE = {
         "public static final int PieceBench.NONE",
@@ -34,7 +34,18 @@ public final class FaceTest {
         }
         int kind = PieceBench.class.getModifiers();
         check.same("the class is public and final", Modifier.isPublic(kind) && Modifier.isFinal(kind), true);
+        check.same("the class has no package", PieceBench.class.getName(), "PieceBench");
+        check.same("NONE", PieceBench.NONE, -1);
+        looksAtTheClassesInside(check);
         check.end();
+    }
+
+    private static void looksAtTheClassesInside(Check check) {
+        for (Class<?> inside : PieceBench.class.getDeclaredClasses()) {
+            int kind = inside.getModifiers();
+            check.same(inside + " is static", Modifier.isStatic(kind), true);
+            check.same(inside + " is seen outside", Modifier.isPublic(kind) || Modifier.isProtected(kind), false);
+        }
     }
 
     private static TreeSet<String> visibleMembers() {
